@@ -88,7 +88,6 @@ public final class FreshLines {
     private final int[] needs = new int[MOST_LINES];
     private final int[] refusals = new int[REASONS];
     private int shotCount;
-    private int faultPlace = NONE;
 
     public FreshLines() {
         for (int i = 0; i < trials.length; i++) {
@@ -118,7 +117,6 @@ public final class FreshLines {
         text.open(n);
         boolean good = plan.readFrom(text);
         text.count = 0;
-        faultPlace = text.place;
         if (!good) {
             return text.fault - 10;
         }
@@ -131,7 +129,6 @@ public final class FreshLines {
         text.open(n);
         boolean good = program.readFrom(text, shape);
         text.count = 0;
-        faultPlace = text.place;
         if (!good) {
             return text.fault - 10;
         }
@@ -150,7 +147,7 @@ public final class FreshLines {
     }
 
     public int fault() {
-        return faultPlace;
+        return text.place;
     }
 
     public int told(int what) throws IllegalArgumentException {
@@ -418,13 +415,15 @@ public final class FreshLines {
     public int forgeries(int line) throws NoSuchElementException {
         needLine(line);
         int at = line * LINE_BYTES;
+        int told = now.outside.lineSums[line];
         int sum = codes.lineSum(now.outside.bytes, at, lineMark(line, now.versionOf(shape.nodes + line)));
-        int lack = Math.floorMod(now.outside.lineSums[line] - sum, PRIME);
         int ways = 0;
         for (int i = 0; i < LINE_BYTES; i++) {
             int old = now.outside.bytes[at + i];
             for (int other = 0; other < 256; other++) {
-                if (other != old && Math.floorMod((long) codes.weights[i] * (other - old), PRIME) == lack) {
+                // PRIME more changes no SUM, and keeps all above 0.
+                long moved = sum + (long) codes.weights[i] * (PRIME + other - old);
+                if (other != old && moved % PRIME == told) {
                     ways++;
                 }
             }
@@ -599,10 +598,10 @@ public final class FreshLines {
             case BEND:
                 now.outside.bendNode(a, b, c, shape);
                 return DONE;
-            case COPY: return copies.takeLine(now.outside, a);
-            case PICK: return copies.takeNode(now.outside, a);
-            case LAY: return copies.layLine(a, now.outside, b);
-            case GRAFT: return copies.layNode(a, now.outside, b);
+            case COPY: return copies.take(now.outside, false, a);
+            case PICK: return copies.take(now.outside, true, a);
+            case LAY: return copies.lay(a, now.outside, false, b);
+            case GRAFT: return copies.lay(a, now.outside, true, b);
             case SHOOT: return shoot();
             default: return replay(a);
         }
@@ -651,7 +650,6 @@ public final class FreshLines {
     /** How many NODES were FETCHED by the REEL; how many went is told by trial 0. */
     private int playReel(int hold) {
         Memory trial = trials[0];
-        trial.takeFrom(now);
         trial.beginTrusting(hold);
         for (int k = 0; k < latest.count; k++) {
             trial.readLine(latest.lines[k]);
@@ -672,10 +670,11 @@ public final class FreshLines {
         int level = 0;
         tourPicks[0] = NONE;
         for (int turn = 0; turn < MOST_TURNS && level >= 0; turn++) {
-            int pick = ++tourPicks[level];
+            tourPicks[level]++;
+            int pick = tourPicks[level];
             if (pick >= many) {
                 level--;
-                taken &= level >= 0 ? ~(1 << tourPicks[level]) : 0;
+                taken = level >= 0 ? taken & ~(1 << tourPicks[level]) : 0;
             } else if ((taken >> pick & 1) == 0) {
                 Memory trial = trials[level + 1];
                 trial.takeFrom(trials[level]);
@@ -796,7 +795,8 @@ public final class FreshLines {
             int start = at;
             long value = 0;
             while (at < length && sign >= '0' && sign <= '9') {
-                value = Math.min(value * 10 + (sign - '0'), Integer.MAX_VALUE);
+                // What is too large already stays so, however many digits come.
+                value = value > MOST_KEY ? value : value * 10 + (sign - '0');
                 at++;
                 sign = at < length ? bytes[at] : NONE;
             }
@@ -1036,7 +1036,7 @@ public final class FreshLines {
 
         /** What the mark of a LINE has to bring so that bytes and SUM are RIGHT. */
         int lineLack(int[] bytes, int at, int sum) {
-            return Math.floorMod(sum - lineSum(bytes, at, 0), PRIME);
+            return (PRIME + sum - lineSum(bytes, at, 0)) % PRIME;
         }
 
         int lineMarkShare(int mark) {
@@ -1081,45 +1081,30 @@ public final class FreshLines {
         final int[] sums = new int[MOST_COPIES];
         int count;
 
-        int takeLine(Outside outside, int line) {
+        int take(Outside outside, boolean node, int place) {
             if (count >= MOST_COPIES) {
                 return REFUSED;
             }
-            System.arraycopy(outside.bytes, line * LINE_BYTES, numbers, count * ROW, LINE_BYTES);
-            ofNode[count] = false;
-            which[count] = line;
-            sums[count] = outside.lineSums[line];
+            int size = node ? ROW : LINE_BYTES;
+            System.arraycopy(node ? outside.rows : outside.bytes, place * size, numbers, count * ROW, size);
+            sums[count] = node ? outside.nodeSums[place] : outside.lineSums[place];
+            ofNode[count] = node;
+            which[count] = place;
             count++;
             return DONE;
         }
 
-        int takeNode(Outside outside, int node) {
-            if (count >= MOST_COPIES) {
+        int lay(int k, Outside outside, boolean node, int place) {
+            if (k < 0 || k >= count || ofNode[k] != node) {
                 return REFUSED;
             }
-            System.arraycopy(outside.rows, node * ROW, numbers, count * ROW, ROW);
-            ofNode[count] = true;
-            which[count] = node;
-            sums[count] = outside.nodeSums[node];
-            count++;
-            return DONE;
-        }
-
-        int layLine(int k, Outside outside, int line) {
-            if (k < 0 || k >= count || ofNode[k]) {
-                return REFUSED;
+            if (node) {
+                System.arraycopy(numbers, k * ROW, outside.rows, place * ROW, ROW);
+                outside.nodeSums[place] = sums[k];
+            } else {
+                System.arraycopy(numbers, k * ROW, outside.bytes, place * LINE_BYTES, LINE_BYTES);
+                outside.lineSums[place] = sums[k];
             }
-            System.arraycopy(numbers, k * ROW, outside.bytes, line * LINE_BYTES, LINE_BYTES);
-            outside.lineSums[line] = sums[k];
-            return DONE;
-        }
-
-        int layNode(int k, Outside outside, int node) {
-            if (k < 0 || k >= count || !ofNode[k]) {
-                return REFUSED;
-            }
-            System.arraycopy(numbers, k * ROW, outside.rows, node * ROW, ROW);
-            outside.nodeSums[node] = sums[k];
             return DONE;
         }
     }
@@ -1250,7 +1235,7 @@ public final class FreshLines {
         int versionOf(int part) {
             int node = shape.aboveOf[part];
             int slot = shape.slotOf[part];
-            if (node == NONE || isHeld(node)) {
+            if (node == NONE || (heldBits >>> node & 1) != 0) {
                 int row = (node + 1) * ROW;
                 return shape.limit * copies[row] + copies[row + 1 + slot];
             }
@@ -1494,8 +1479,8 @@ public final class FreshLines {
         /** DONE, or the DEPTH at which it is not RIGHT. */
         int fetchNode(int node, int version) {
             int depth = shape.depthOf[node];
-            int sum = codes.nodeSum(outside.rows, node * ROW, nodeMark(node, version));
-            if (!trusting && sum != outside.nodeSums[node]) {
+            int mark = nodeMark(node, version);
+            if (!trusting && outside.nodeSums[node] != codes.nodeSum(outside.rows, node * ROW, mark)) {
                 return depth;
             }
             fetches[depth]++;
@@ -1539,7 +1524,9 @@ public final class FreshLines {
                 }
                 sum += version;
                 int ahead = line - shape.slotOf[shape.nodes + line];
-                unlike |= findVersion(ahead) >> shape.bits != version >> shape.bits;
+                if (findVersion(ahead) >> shape.bits != version >> shape.bits) {
+                    unlike = true;
+                }
             }
             if (unlike) {
                 return 3;
@@ -1573,8 +1560,9 @@ public final class FreshLines {
                 for (int k = 0; k < shape.fan; k++) {
                     int part = shape.fan * (node + 1) + k;
                     int version = node < shape.firstLeaf ? 0 : findVersion(part - shape.nodes);
-                    same &= outside.rows[node * ROW] == version >> shape.bits;
-                    same &= outside.rows[node * ROW + 1 + k] == (version & shape.limit - 1);
+                    int major = outside.rows[node * ROW];
+                    int minor = outside.rows[node * ROW + 1 + k];
+                    same = same && major == version >> shape.bits && minor == (version & shape.limit - 1);
                 }
                 if (!same) {
                     many++;
