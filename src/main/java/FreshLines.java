@@ -17,12 +17,16 @@ public final class FreshLines {
     private static final int MOST_VERSION = 1023;
     private static final int MOST_CLAUSES = 60;
     private static final int MOST_OPEN = 6;
+    private static final int MOST_ROUNDS = 60;
+    private static final int STEP_NUMBERS = 3;
     private static final int MOST_STEPS = 200;
     private static final int MOST_TURNS = 1_000_000;
     private static final int MOST_COPIES = 8;
     private static final int MOST_SHOTS = 3;
     private static final int MOST_REEL = 24;
     private static final int MOST_TOUR = 5;
+    /** More than any TOUR fetches. */
+    private static final int NO_TOUR = 1_000_000;
     private static final int MOST_AFTER = 99;
     private static final int MOST_WORD = 99_999_999;
     private static final int MOST_KEY = 999_999_999;
@@ -136,8 +140,8 @@ public final class FreshLines {
         program.rewind();
         int done = 0;
         for (int turn = 0; turn < MOST_STEPS && program.advance(); turn++) {
-            int at = program.at;
-            int outcome = doStep(program.kinds[at], program.first[at], program.second[at], program.third[at]);
+            int at = program.at * STEP_NUMBERS;
+            int outcome = doStep(program.kinds[program.at], program.numbers[at], program.numbers[at + 1], program.numbers[at + 2]);
             report.add(outcome);
             if (outcome == DONE) {
                 done++;
@@ -665,7 +669,7 @@ public final class FreshLines {
         }
         trials[0].takeFrom(now);
         int base = now.countFetches();
-        int best = Integer.MAX_VALUE;
+        int best = NO_TOUR;
         int taken = 0;
         int level = 0;
         tourPicks[0] = NONE;
@@ -695,7 +699,7 @@ public final class FreshLines {
                 }
             }
         }
-        return best == Integer.MAX_VALUE ? NONE : best;
+        return best == NO_TOUR ? NONE : best;
     }
 
     private int listTourLines(long lines) {
@@ -850,7 +854,7 @@ public final class FreshLines {
                     return false;
                 }
             }
-            return false;
+            return text.fail(FAULT_MANY, text.at);
         }
 
         boolean readClause(Text text) {
@@ -1575,9 +1579,7 @@ public final class FreshLines {
     /** WORK as rows of its STEPS; again stands where it opens, CLOSE where it ends. */
     private static final class Program {
         final int[] kinds = new int[WORK_ROOM];
-        final int[] first = new int[WORK_ROOM];
-        final int[] second = new int[WORK_ROOM];
-        final int[] third = new int[WORK_ROOM];
+        final int[] numbers = new int[WORK_ROOM * STEP_NUMBERS];
         final int[] closes = new int[WORK_ROOM];
         final int[] opens = new int[MOST_OPEN];
         final int[] rounds = new int[MOST_OPEN];
@@ -1647,22 +1649,13 @@ public final class FreshLines {
         boolean readNumbers(Text text, int kind, Shape shape) {
             String wanted = numbersOf(kind);
             kinds[size] = kind;
-            first[size] = 0;
-            second[size] = 0;
-            third[size] = 0;
-            for (int i = 0; i < wanted.length(); i++) {
-                char sort = wanted.charAt(i);
+            for (int i = 0; i < wanted.length() && i < STEP_NUMBERS; i++) {
+                int sort = wanted.charAt(i);
                 int number = text.takeNumber(sort == 'X' || sort == 'x' ? 1 : 0, mostOf(sort, shape));
                 if (number == NONE) {
                     return false;
                 }
-                if (i == 0) {
-                    first[size] = number;
-                } else if (i == 1) {
-                    second[size] = number;
-                } else {
-                    third[size] = number;
-                }
+                numbers[size * STEP_NUMBERS + i] = number;
             }
             return true;
         }
@@ -1684,7 +1677,7 @@ public final class FreshLines {
             }
         }
 
-        static int mostOf(char sort, Shape shape) {
+        static int mostOf(int sort, Shape shape) {
             switch (sort) {
                 case 'L': return shape.lines - 1;
                 case 'N': return shape.nodes - 1;
@@ -1695,7 +1688,7 @@ public final class FreshLines {
                 case 'x': return 999;
                 case 'A': return MOST_COPIES - 1;
                 case 'Z': return MOST_SHOTS - 1;
-                default: return 60;
+                default: return MOST_ROUNDS;
             }
         }
 
@@ -1724,12 +1717,13 @@ public final class FreshLines {
         }
 
         void openLoop() {
-            if (first[at] == 0 || level >= MOST_OPEN) {
+            int told = numbers[at * STEP_NUMBERS];
+            if (told == 0 || level >= MOST_OPEN) {
                 next = closes[at] + 1;
                 return;
             }
             opens[level] = at;
-            rounds[level] = first[at];
+            rounds[level] = told;
             level++;
         }
 
@@ -1781,8 +1775,10 @@ public final class FreshLines {
 
         void add(int line) {
             if (count == MOST_REEL) {
-                System.arraycopy(lines, 1, lines, 0, MOST_REEL - 1);
                 count--;
+                for (int i = 0; i < count; i++) {
+                    lines[i] = lines[i + 1];
+                }
             }
             lines[count] = line;
             count++;

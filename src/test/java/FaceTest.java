@@ -88,7 +88,7 @@ public final class FaceTest {
     private static void signs() throws Exception {
         String source = Files.readString(Path.of("src/main/java/FreshLines.java"));
         String code = source.replaceAll("(?s)/\\*.*?\\*/", "").replaceAll("//[^\n]*", "").replaceAll("\"[^\"\n]*\"", "\"\"").replaceAll("'.'", "' '");
-        String[] never = {"\\bcatch\\b", "\\bfinally\\b", "\\bsynchronized\\b", "\\bassert\\b", "->", "::", "\\bpackage\\b", "\\bgetMessage\\b", "\\bMath\\.", "Exact\\b",
+        String[] never = {"\\bcatch\\b", "\\bfinally\\b", "\\bsynchronized\\b", "\\bassert\\b", "->", "::", "\\bpackage\\b", "\\bgetMessage\\b", "\\bMath\\.", "\\bInteger\\.", "Exact\\b",
             "\\bThread\\b", "\\bRandom\\b", "nanoTime", "currentTimeMillis", "\\bprotected\\b", "static \\{", "\\bequals\\b", "\\bhashCode\\b", "\\btoString\\b",
             "\\binstanceof\\b", "\\bvar\\b", "\\byield\\b", "\\bfloat\\b", "\\bdouble\\b", "\\bList\\b", "\\bwhile \\(true"};
         for (String sign : never) {
