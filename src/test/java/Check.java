@@ -14,15 +14,32 @@ final class Check {
 
     private static int wrong;
     private static int asked;
+    /** The sentence of the document that is asked about. */
+    private static String sentence = "";
 
     private Check() {
+    }
+
+    static void about(String words) {
+        sentence = "[" + words + "] ";
+    }
+
+    private static void fail(String how) {
+        wrong++;
+        System.out.println(sentence + how);
     }
 
     static void due(String what, long want, long got) {
         asked++;
         if (got != want) {
-            wrong++;
-            System.out.println(what + " answered " + got + ", due is " + want);
+            fail(what + " answered " + got + ", due is " + want);
+        }
+    }
+
+    static void due(String what, String want, String got) {
+        asked++;
+        if (!got.equals(want)) {
+            fail(what + " answered " + got + ", due is " + want);
         }
     }
 
@@ -34,12 +51,10 @@ final class Check {
         asked++;
         try {
             long got = call.now();
-            wrong++;
-            System.out.println(what + " answered " + got + ", due is " + want.getSimpleName());
+            fail(what + " answered " + got + ", due is " + want.getSimpleName());
         } catch (RuntimeException e) {
             if (e.getClass() != want) {
-                wrong++;
-                System.out.println(what + " threw " + e + ", due is " + want.getSimpleName());
+                fail(what + " threw " + e + ", due is " + want.getSimpleName());
             }
         }
     }
@@ -92,10 +107,57 @@ final class Check {
         due("count behind work '" + text + "'", 0, x.count());
     }
 
+    /** 0: the text is good; else the FAULT, and its place is looked at too. */
+    static void machineOf(String text, int kind, int place) {
+        FreshLines x = new FreshLines();
+        int got = machine(x, text);
+        due("machine '" + text + "'", kind == 0 ? x.told(4) : kind - 10, got);
+        due("fault of machine '" + text + "'", place, x.fault());
+    }
+
+    static void workOf(FreshLines x, String text, int kind, int place) {
+        int got = work(x, text);
+        due("work '" + text + "' has a fault", kind == 0 ? 0 : kind - 10, kind == 0 ? Math.min(got, 0) : got);
+        due("fault of work '" + text + "'", place, x.fault());
+    }
+
+    /** All that the object tells of itself without asking what would be, in some seventy calls; the TAPE and the status left out. */
+    static String state(FreshLines x) {
+        StringBuilder s = new StringBuilder();
+        for (int what = 0; what <= 15; what++) {
+            s.append(what == 10 ? "work " : what == 14 ? "outside " : "").append(x.told(what)).append(' ');
+        }
+        for (int j = 0; j <= x.told(0); j++) {
+            s.append(j == 0 ? "root " : " ").append(x.root(j));
+        }
+        for (int k = 0; k < x.told(8); k++) {
+            int node = x.used(k);
+            s.append(" held ").append(node);
+            for (int j = 0; j <= x.told(0); j++) {
+                s.append(' ').append(x.held(node, j));
+            }
+        }
+        for (int depth = 1; depth <= x.told(1) + 1; depth++) {
+            s.append(" depth ").append(x.fetched(depth)).append(' ').append(x.stored(depth));
+        }
+        for (int k = 0; x.reel(k) != FreshLines.NONE; k++) {
+            s.append(k == 0 ? " reel " : " ").append(x.reel(k));
+        }
+        for (int k = 0; k < x.told(15); k++) {
+            s.append(" copy ").append(x.album(k, 0)).append(' ').append(x.album(k, 1)).append(' ').append(x.album(k, 2));
+        }
+        return s.append(" dirty ").append(x.dirty()).append(" print ").append(x.print()).toString();
+    }
+
+    /** A state without what the latest WORK had REFUSED. */
+    static String unworked(String state) {
+        return state.replaceAll("work .* outside", "outside");
+    }
+
     static void end(String name) {
         System.out.println(name + ": " + asked + " asked, " + wrong + " wrong");
         if (wrong != 0) {
-            System.exit(1);
+            throw new AssertionError(name + " failed");
         }
     }
 }

@@ -4,8 +4,9 @@ import java.util.HashMap;
 import java.util.Map;
 import java.util.Random;
 
-/** Random runs: each answer, each exception of FreshLines has to be that of SlowLines. Takes: how many runs, the first seed. */
+/** Random runs of 512 calls: each answer, each exception of FreshLines has to be that of SlowLines. Takes: how many runs, the first seed. */
 public final class ModelTest {
+    static final int MOST_CALLS = 512;
     static final Map<String, Method> FACE = new HashMap<>();
     static final String[] ASKED = {"told", "told", "root", "line", "line", "word", "sound", "where", "found", "node", "node", "minor", "held",
         "held", "used", "above", "under", "dirty", "fetched", "stored", "album", "kept", "laid", "laid", "mends", "stale", "left", "wear", "costs",
@@ -16,6 +17,8 @@ public final class ModelTest {
     final FreshLines fresh = new FreshLines();
     final SlowLines slow = new SlowLines();
     final StringBuilder log = new StringBuilder();
+    /** No more than 512: what later calls answer is free. */
+    int calls;
     final int few;
     /** 0: nobody outside does anything, and power stays; 1: copies, and power lost with mend at once; 2: all. */
     final int harm;
@@ -32,7 +35,7 @@ public final class ModelTest {
                 FACE.put(m.getName(), m);
             }
         }
-        int runs = args.length > 0 ? Integer.parseInt(args[0]) : 120;
+        int runs = args.length > 0 ? Integer.parseInt(args[0]) : 240;
         long first = args.length > 1 ? Long.parseLong(args[1]) : 1;
         for (long seed = first; seed < first + runs; seed++) {
             ModelTest test = new ModelTest(seed);
@@ -45,12 +48,11 @@ public final class ModelTest {
     }
 
     boolean run() throws Exception {
-        int calls = 0;
         if (random.nextInt(8) > 0 && !text(machine(), "machine")) {
             return false;
         }
         boolean storm = random.nextInt(3) == 0;
-        while (calls < 400) {
+        while (calls < MOST_CALLS) {
             int what = random.nextInt(storm ? 3 : 12);
             if (what == 0) {
                 int n = 1 + random.nextInt(3);
@@ -60,7 +62,6 @@ public final class ModelTest {
                         return false;
                     }
                 }
-                calls += 10;
             } else {
                 String name = ASKED[random.nextInt(ASKED.length)];
                 if (name.equals("feed") && random.nextInt(5) > 0) {
@@ -69,10 +70,9 @@ public final class ModelTest {
                 if (!same(name, arguments(name))) {
                     return false;
                 }
-                calls++;
             }
         }
-        return same("print");
+        return true;
     }
 
     boolean text(String text, String kind) throws Exception {
@@ -271,7 +271,12 @@ public final class ModelTest {
         }
     }
 
+    /** True without a call, when there were 512 of them. */
     boolean same(String name, long... a) throws Exception {
+        if (calls == MOST_CALLS) {
+            return true;
+        }
+        calls++;
         String got = ofFresh(name, a);
         String want = ofSlow(name, a);
         log.append(name).append(java.util.Arrays.toString(a)).append(" -> ").append(got);

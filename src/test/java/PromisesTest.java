@@ -493,29 +493,16 @@ public final class PromisesTest {
         Check.thrown("found -1", Check.MISSING, () -> x.found(-1));
     }
 
-    /** A byte of another number, by which a line is right by a version that few bits of minors do not have. */
+    /** Bytes of other numbers, by which a line is right by a version that few bits of minors do not have. */
     private static void versionsBeyondTheLimit() {
-        int seen = 0;
-        for (int key = 0; key < 40; key++) {
-            FreshLines x = Check.made("minor 4;key " + key + ";");
-            FreshLines y = Check.made("minor 1;key " + key + ";");
-            for (int turned = 1; turned < 256; turned++) {
-                int change = (x.line(0, 0) ^ turned) - x.line(0, 0);
-                for (int version = 128; version < 1024; version++) {
-                    if (((long) x.weight(0) * change + (long) x.weight(4) * version) % 1000003 == 0) {
-                        String flip = "flip 0 0 " + turned + ";";
-                        Check.work(x, flip);
-                        Check.work(y, flip);
-                        Check.due("within 1,024", version, x.found(0));
-                        Check.due("not within 128", -1, y.found(0));
-                        Check.work(x, flip);
-                        Check.work(y, flip);
-                        seen++;
-                    }
-                }
-            }
+        for (int version : new int[] {127, 128, 1023}) {
+            FreshLines x = Check.made("minor 4;key 21;");
+            FreshLines y = Check.made("minor 1;key 21;");
+            Check.work(x, Sums.forge(x, 21, 0, version));
+            Check.work(y, Sums.forge(y, 21, 0, version));
+            Check.due("within 1,024", version, x.found(0));
+            Check.due("within 128, or not", version < 128 ? version : -1, y.found(0));
         }
-        Check.due("some were seen", true, seen > 0);
     }
 
     static void promise13() {

